@@ -633,7 +633,7 @@ public final class WireCutter {
 
         int choose(char material, int piece, char rule) {
             int chosen = NONE;
-            for (int i = 0; i < count(); i++) {
+            for (int i = 0; i < lengths.size(); i++) {
                 boolean fits = materials.get(i) == material && lengths.get(i) >= piece;
                 if (fits && (chosen == NONE || isPreferred(lengths.get(i), lengths.get(chosen), rule))) {
                     chosen = i;
@@ -1028,7 +1028,9 @@ public final class WireCutter {
         }
 
         boolean isFillable(int position) {
-            return scrapFor(position) != NONE || spoolFor(position) != NONE;
+            char material = orders.materialAt(position);
+            int piece = orders.lengthAt(position);
+            return scraps.shortestFor(material, piece) != NONE || spools.choose(material, piece, rule) != NONE;
         }
 
         int scrapFor(int position) {
@@ -1049,12 +1051,12 @@ public final class WireCutter {
         private int fillAt(int position) {
             char material = orders.materialAt(position);
             int piece = orders.lengthAt(position);
-            int scrap = scrapFor(position);
+            int scrap = scraps.shortestFor(material, piece);
             int number = NONE;
             if (scrap != NONE) {
                 cutScrap(scrap, material, piece);
             } else {
-                int spool = spoolFor(position);
+                int spool = spools.choose(material, piece, rule);
                 number = spools.numberAt(spool);
                 cutSpool(spool, material, piece);
             }

@@ -17,6 +17,10 @@ public final class PromiseTest {
         Object answer();
     }
 
+    private interface Change {
+        Object on(WireCutter x);
+    }
+
     private static void due(Object want, Object got) {
         if (!want.equals(got)) {
             wrong++;
@@ -112,6 +116,19 @@ public final class PromiseTest {
         x.fill(0);
         x.fill(1);
         return x;
+    }
+
+    private static String stateOf(WireCutter x) {
+        StringBuilder state = new StringBuilder();
+        for (int i = 0; i < x.spools(); i++) {
+            state.append(spoolLine(x, x.spoolByLength(i))).append(' ');
+        }
+        state.append(orderLine(x)).append(" k").append(x.kerf()).append('l').append(x.scrapLimit()).append(x.rule());
+        for (char m = 'a'; m <= 'b'; m++) {
+            state.append(' ').append(scrapList(x, m)).append('w').append(x.wound(m)).append('/')
+                .append(x.woundByParts(m)).append('d').append(x.delivered(m)).append('l').append(x.losses(m));
+        }
+        return state.append(" f").append(x.filled()).toString();
     }
 
     private static void promise1() {
@@ -529,6 +546,11 @@ public final class PromiseTest {
         for (int i = 0; i < 12; i++) {
             x.addOrder('d', i == 0 ? 1 : 198, 12 - i);
         }
+        x.addSpool('e', 999);
+        promise = 24;
+        due(793, x.bestLoadByRecursion(0));
+        due(0, x.bestLoadByRecursion(1));
+        due(793, x.bestLoadByRecursion(0));
         // Five pieces with four kerfs are 1010; the piece of 1 with four others is 813.
         bothLoads(x, 793, 0);
         x.setKerf(2);
@@ -672,7 +694,7 @@ public final class PromiseTest {
         WireCutter x = busy(42);
         due(true, x.isConsistent());
         for (int i = 0; i < 10; i++) {
-            x.addOrder((char) ('a' + i % 2), 7 * i + 3, 50 - i);
+            x.addOrder((char) ('a' + i % 2), 7 * i + 3, 50 - i / 3);
         }
         due(true, x.isConsistent());
         x.setKerf(5);
@@ -764,6 +786,17 @@ public final class PromiseTest {
         }
         due(1, x.orders());
         due(0, x.undo());
+        WireCutter full = fresh(47);
+        for (int i = 0; i < 10; i++) {
+            full.addSpool('a', 10);
+        }
+        for (int i = 0; i < 12; i++) {
+            full.addOrder('a', 10, 1);
+        }
+        refused(UNSUPPORTED, () -> runText(full, "spool a10"));
+        refused(UNSUPPORTED, () -> runText(full, "order a10@1"));
+        due(2, runText(full, "retire 0;spool a10"));
+        due(true, full.hasSpool(10));
     }
 
     private static void promise48() {
@@ -782,6 +815,8 @@ public final class PromiseTest {
         failsAt(x, 7, "spool a");
         failsAt(x, 7, "spool a-1");
         failsAt(x, 10, "spool a1000");
+        failsAt(x, 10, "order a1234");
+        failsAt(x, 6, "kerf 1kerf 2");
         failsAt(x, 8, "order a5");
         failsAt(x, 8, "order a5;");
         failsAt(x, 9, "order a5@");
@@ -872,7 +907,46 @@ public final class PromiseTest {
         promise50EveryChange();
     }
 
+    private static void isUndone(Change change) {
+        WireCutter x = busy(50);
+        String before = stateOf(x);
+        change.on(x);
+        due(false, before.equals(stateOf(x)));
+        due(7, x.undo());
+        due(before, stateOf(x));
+        change.on(x);
+        due(7, x.undo());
+        due(before, stateOf(x));
+    }
+
+    private static void promise50FullOfChanges() {
+        WireCutter x = fresh(50);
+        for (int i = 0; i < 9; i++) {
+            x.setScrapLimit(10 + i);
+        }
+        due(7, x.undo());
+        x.setScrapLimit(40);
+        due(7, x.undo());
+        due(17, x.scrapLimit());
+    }
+
     private static void promise50EveryChange() {
+        isUndone(x -> x.addSpool('a', 10));
+        isUndone(x -> x.retire(0));
+        isUndone(x -> x.throwScraps('a'));
+        isUndone(x -> x.addOrder('a', 1, 1));
+        isUndone(x -> x.cancel(3));
+        isUndone(x -> x.fill(2));
+        isUndone(x -> x.fillDue(50));
+        isUndone(x -> x.setKerf(0));
+        isUndone(x -> x.setScrapLimit(1));
+        isUndone(x -> x.setRule('f'));
+        isUndone(x -> runText(x, "clear a;kerf 3;due 9"));
+        promise50FullOfChanges();
+        promise50Chain();
+    }
+
+    private static void promise50Chain() {
         WireCutter x = fresh(50);
         x.retire(x.addSpool('a', 50));
         x.undo();
