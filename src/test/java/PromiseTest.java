@@ -1,106 +1,14 @@
-import java.util.NoSuchElementException;
-
 /** A test for each promise of the document, under the number of the promise. */
-public final class PromiseTest {
-    private static final Class<?> ARGUMENT = IllegalArgumentException.class;
-    private static final Class<?> STATE = IllegalStateException.class;
-    private static final Class<?> NO_ELEMENT = NoSuchElementException.class;
-    private static final Class<?> UNSUPPORTED = UnsupportedOperationException.class;
-    private static final Class<?> ARITHMETIC = ArithmeticException.class;
-    private static final Class<?> INDEX = IndexOutOfBoundsException.class;
+public final class PromiseTest extends Checks {
     private static final char[] NO_MATERIALS = {'g', '`', 'A', 'F', '0', ' ', (char) 0, (char) 97 + 256, (char) 65535};
 
-    private static int wrong = 0;
-    private static int promise = 0;
-
-    private interface Call {
-        Object answer();
-    }
-
-    private interface Change {
-        Object on(WireCutter x);
-    }
-
-    private static void due(Object want, Object got) {
-        if (!want.equals(got)) {
-            wrong++;
-            System.out.println("promise " + promise + ", line " + line() + ": " + got + ", due is " + want);
-        }
-    }
-
-    private static void refused(Class<?> want, Call call) {
-        try {
-            due(want.getName(), call.answer());
-        } catch (RuntimeException e) {
-            due(want.getName(), e.getClass().getName());
-        }
-    }
-
-    private static int line() {
-        int line = 0;
-        for (StackTraceElement element : new Throwable().getStackTrace()) {
-            if (element.getMethodName().startsWith("promise")) {
-                line = element.getLineNumber();
-            }
-        }
-        return line;
-    }
-
     private static WireCutter fresh(int number) {
-        promise = number;
-        return new WireCutter();
+        promise(number);
+        return fresh();
     }
 
-    private static void typeAll(WireCutter x, String text) {
-        for (char character : text.toCharArray()) {
-            x.type(character);
-        }
-    }
-
-    private static int runText(WireCutter x, String text) {
-        typeAll(x, text);
-        return x.run();
-    }
-
-    private static void failsAt(WireCutter x, int position, String text) {
-        typeAll(x, text);
-        refused(ARGUMENT, () -> x.run());
-        due(position, x.errorPosition());
-    }
-
-    private static String lineOf(WireCutter x, int length) {
-        StringBuilder line = new StringBuilder();
-        for (int i = 0; i < length; i++) {
-            line.append(x.charAt(i));
-        }
-        refused(INDEX, () -> x.charAt(length));
-        return line.toString();
-    }
-
-    private static String spoolLine(WireCutter x, int spool) {
-        return lineOf(x, x.writeSpool(spool));
-    }
-
-    private static String orderLine(WireCutter x) {
-        return lineOf(x, x.writeOrders());
-    }
-
-    private static String scrapList(WireCutter x, char material) {
-        StringBuilder list = new StringBuilder();
-        for (int i = 0; i < x.scraps(material); i++) {
-            list.append(i > 0 ? " " : "").append(x.scrap(material, i));
-        }
-        return list.toString();
-    }
-
-    private static void addScrap(WireCutter x, char material, int length) {
-        x.retire(x.addSpool(material, length));
-    }
-
-    private static void addScraps(WireCutter x, char material, int length, int count) {
-        for (int i = 0; i < count; i++) {
-            addScrap(x, material, length);
-        }
+    private static void promise(int number) {
+        about("promise " + number);
     }
 
     /** A piece of b is cut from a spool, and a piece of a from a scrap. */
@@ -116,19 +24,6 @@ public final class PromiseTest {
         x.fill(0);
         x.fill(1);
         return x;
-    }
-
-    private static String stateOf(WireCutter x) {
-        StringBuilder state = new StringBuilder();
-        for (int i = 0; i < x.spools(); i++) {
-            state.append(spoolLine(x, x.spoolByLength(i))).append(' ');
-        }
-        state.append(orderLine(x)).append(" k").append(x.kerf()).append('l').append(x.scrapLimit()).append(x.rule());
-        for (char m = 'a'; m <= 'b'; m++) {
-            state.append(' ').append(scrapList(x, m)).append('w').append(x.wound(m)).append('/')
-                .append(x.woundByParts(m)).append('d').append(x.delivered(m)).append('l').append(x.losses(m));
-        }
-        return state.append(" f").append(x.filled()).toString();
     }
 
     private static void promise1() {
@@ -424,12 +319,12 @@ public final class PromiseTest {
         due(4, x.kerf());
         refused(ARGUMENT, () -> x.setKerf(9));
         due(4, x.kerf());
-        promise = 13;
+        promise(13);
         x.setScrapLimit(17);
         due(17, x.scrapLimit());
         refused(ARGUMENT, () -> x.setScrapLimit(-9));
         due(17, x.scrapLimit());
-        promise = 14;
+        promise(14);
         x.setRule('w');
         due('w', x.rule());
         refused(ARGUMENT, () -> x.setRule('d'));
@@ -441,21 +336,21 @@ public final class PromiseTest {
         due(2, x.spools());
         x.retire(0);
         due(1, x.spools());
-        promise = 16;
+        promise(16);
         due(false, x.hasSpool(0));
         due(true, x.hasSpool(1));
         due(false, x.hasSpool(3));
         due(false, x.hasSpool(-1));
         due(false, x.hasSpool(Integer.MAX_VALUE));
-        promise = 17;
+        promise(17);
         due('b', x.material(1));
         refused(NO_ELEMENT, () -> x.material(0));
         refused(NO_ELEMENT, () -> x.material(-1));
-        promise = 18;
+        promise(18);
         due(39, x.remaining(1));
         refused(NO_ELEMENT, () -> x.remaining(0));
         refused(NO_ELEMENT, () -> x.remaining(3));
-        promise = 19;
+        promise(19);
         due(1, x.cuts(1));
         x.fill(2);
         due(2, x.cuts(1));
@@ -490,25 +385,25 @@ public final class PromiseTest {
         due(3, x.scraps('a'));
         due(1, x.scraps('b'));
         due(0, x.scraps('c'));
-        promise = 22;
+        promise(22);
         due("10 30 30", scrapList(x, 'a'));
         due(20, x.scrap('b', 0));
         refused(NO_ELEMENT, () -> x.scrap('a', 3));
         refused(NO_ELEMENT, () -> x.scrap('a', -1));
         refused(NO_ELEMENT, () -> x.scrap('f', 0));
         for (char c : NO_MATERIALS) {
-            promise = 21;
+            promise(21);
             refused(ARGUMENT, () -> x.scraps(c));
-            promise = 22;
+            promise(22);
             refused(ARGUMENT, () -> x.scrap(c, 0));
             refused(ARGUMENT, () -> x.scrap(c, -1));
         }
     }
 
     private static void bothLoads(WireCutter x, int want, int spool) {
-        promise = 23;
+        promise(23);
         due(want, x.bestLoad(spool));
-        promise = 24;
+        promise(24);
         due(want, x.bestLoadByRecursion(spool));
     }
 
@@ -530,10 +425,10 @@ public final class PromiseTest {
         bothLoads(x, 20, 0);
         x.addOrder('a', 30, 1);
         bothLoads(x, 30, 0);
-        promise = 23;
+        promise(23);
         refused(NO_ELEMENT, () -> x.bestLoad(1));
         refused(NO_ELEMENT, () -> x.bestLoad(-1));
-        promise = 24;
+        promise(24);
         refused(NO_ELEMENT, () -> x.bestLoadByRecursion(1));
         refused(NO_ELEMENT, () -> x.bestLoadByRecursion(-1));
         promises23To24Greatest();
@@ -547,7 +442,7 @@ public final class PromiseTest {
             x.addOrder('d', i == 0 ? 1 : 198, 12 - i);
         }
         x.addSpool('e', 999);
-        promise = 24;
+        promise(24);
         due(793, x.bestLoadByRecursion(0));
         due(0, x.bestLoadByRecursion(1));
         due(793, x.bestLoadByRecursion(0));
@@ -562,27 +457,27 @@ public final class PromiseTest {
     private static void promises25To30() {
         WireCutter x = busy(25);
         due(2, x.orders());
-        promise = 26;
+        promise(26);
         due(false, x.isOpen(0));
         due(true, x.isOpen(2));
         due(true, x.isOpen(3));
         due(false, x.isOpen(4));
         due(false, x.isOpen(-1));
-        promise = 27;
+        promise(27);
         due('f', x.orderMaterial(3));
         refused(NO_ELEMENT, () -> x.orderMaterial(0));
         refused(NO_ELEMENT, () -> x.orderMaterial(4));
-        promise = 28;
+        promise(28);
         due(200, x.orderLength(3));
         due(5, x.orderLength(2));
         refused(NO_ELEMENT, () -> x.orderLength(1));
         refused(NO_ELEMENT, () -> x.orderLength(-1));
-        promise = 29;
+        promise(29);
         due(7, x.due(2));
         due(99, x.due(3));
         refused(NO_ELEMENT, () -> x.due(0));
         refused(NO_ELEMENT, () -> x.due(Integer.MIN_VALUE));
-        promise = 30;
+        promise(30);
         x.addOrder('a', 1, 7);
         x.addOrder('a', 1, 6);
         x.addOrder('a', 1, 99);
@@ -612,13 +507,13 @@ public final class PromiseTest {
         due(false, x.canFill(3));
         refused(NO_ELEMENT, () -> x.canFill(4));
         refused(NO_ELEMENT, () -> x.canFill(-1));
-        promise = 32;
+        promise(32);
         due(20, x.chosenScrap(0));
         due(30, x.chosenScrap(1));
         refused(NO_ELEMENT, () -> x.chosenScrap(2));
         refused(NO_ELEMENT, () -> x.chosenScrap(3));
         refused(NO_ELEMENT, () -> x.chosenScrap(4));
-        promise = 33;
+        promise(33);
         due(2, x.chosenSpool(2));
         refused(NO_ELEMENT, () -> x.chosenSpool(0));
         refused(NO_ELEMENT, () -> x.chosenSpool(1));
@@ -633,37 +528,37 @@ public final class PromiseTest {
         due(130, x.wound('a'));
         due(60, x.wound('b'));
         due(0, x.wound('f'));
-        promise = 35;
+        promise(35);
         x.throwScraps('a');
         x.retire(1);
         due(130, x.woundByParts('a'));
         due(60, x.woundByParts('b'));
         due(0, x.woundByParts('f'));
-        promise = 36;
+        promise(36);
         due(10, x.delivered('a'));
         due(20, x.delivered('b'));
         due(0, x.delivered('c'));
-        promise = 37;
+        promise(37);
         due(1, x.losses('a'));
         due(1, x.losses('b'));
         due(0, x.losses('f'));
         for (char c : NO_MATERIALS) {
-            promise = 34;
+            promise(34);
             refused(ARGUMENT, () -> x.wound(c));
-            promise = 35;
+            promise(35);
             refused(ARGUMENT, () -> x.woundByParts(c));
-            promise = 36;
+            promise(36);
             refused(ARGUMENT, () -> x.delivered(c));
-            promise = 37;
+            promise(37);
             refused(ARGUMENT, () -> x.losses(c));
         }
-        promise = 38;
+        promise(38);
         due(2, x.filled());
         due(1, x.fillDue(98));
         due(3, x.filled());
         x.cancel(3);
         due(3, x.filled());
-        promise = 39;
+        promise(39);
         due(35L, x.totalDelivered());
     }
 
@@ -675,7 +570,7 @@ public final class PromiseTest {
         due(10.0, x.meanRemaining());
         x.addSpool('b', 11);
         due(31.0 / 3.0, x.meanRemaining());
-        promise = 41;
+        promise(41);
         refused(ARITHMETIC, () -> x.lossRate());
         x.setKerf(0);
         x.addOrder('a', 7, 1);
@@ -685,7 +580,7 @@ public final class PromiseTest {
         x.addOrder('b', 6, 1);
         x.fill(1);
         due(2.0f / 13.0f, x.lossRate());
-        promise = 40;
+        promise(40);
         addScrap(x, 'c', 20);
         due(11.0, x.meanRemaining());
     }
@@ -715,18 +610,18 @@ public final class PromiseTest {
             x.addOrder('a', 1, 30 - i);
         }
         x.fillDue(99);
-        promise = 43;
+        promise(43);
         due("1f:10/0", spoolLine(x, 1));
         due("0a:977/11", spoolLine(x, 0));
         refused(NO_ELEMENT, () -> x.writeSpool(2));
         refused(NO_ELEMENT, () -> x.writeSpool(-1));
         due("0a:977/11", lineOf(x, 9));
-        promise = 44;
+        promise(44);
         x.addOrder('c', 7, 12);
         due("11c7@12", orderLine(x));
         x.addOrder('a', 200, 5);
         due("12a200@5 11c7@12", orderLine(x));
-        promise = 45;
+        promise(45);
         x.undo();
         due("12a200@5 11c7@12", lineOf(x, 16));
         due('1', x.charAt(0));
@@ -735,7 +630,7 @@ public final class PromiseTest {
         refused(INDEX, () -> x.charAt(16));
         refused(INDEX, () -> x.charAt(Integer.MAX_VALUE));
         refused(INDEX, () -> x.charAt(Integer.MIN_VALUE));
-        promise = 44;
+        promise(44);
         x.cancel(11);
         due("", orderLine(x));
     }
@@ -907,16 +802,16 @@ public final class PromiseTest {
         promise50EveryChange();
     }
 
-    private static void isUndone(Change change) {
+    private static void isUndone(CallOn change) {
         WireCutter x = busy(50);
-        String before = stateOf(x);
+        String before = pictureOf(x);
         change.on(x);
-        due(false, before.equals(stateOf(x)));
+        due(false, before.equals(pictureOf(x)));
         due(7, x.undo());
-        due(before, stateOf(x));
+        due(before, pictureOf(x));
         change.on(x);
         due(7, x.undo());
-        due(before, stateOf(x));
+        due(before, pictureOf(x));
     }
 
     private static void promise50FullOfChanges() {
@@ -1057,9 +952,6 @@ public final class PromiseTest {
         promise50();
         promise51();
         promise52();
-        if (wrong > 0) {
-            System.exit(1);
-        }
-        System.out.println("all promises hold");
+        end("all promises hold");
     }
 }
