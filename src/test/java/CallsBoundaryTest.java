@@ -405,7 +405,7 @@ public final class CallsBoundaryTest extends Checks {
 
     // ---- promises 23 and 24
 
-    private static void load(int want, int kerf, int length, int... pieces) {
+    private static WireCutter withPieces(int kerf, int length, int... pieces) {
         WireCutter x = fresh();
         x.setKerf(kerf);
         x.addSpool('c', length);
@@ -413,11 +413,17 @@ public final class CallsBoundaryTest extends Checks {
         if (pieces.length < 12) {
             x.addOrder('d', 1, 1);
         }
+        return x;
+    }
+
+    private static void load(int want, int kerf, int length, int... pieces) {
+        // An object for each way, so that none can lean on what the other one did.
         about(23, "by a table of lengths");
-        due(want, x.bestLoad(0));
+        due(want, withPieces(kerf, length, pieces).bestLoad(0));
         about(24, "by a recursion that takes or leaves one order after the other");
-        due(want, x.bestLoadByRecursion(0));
-        due(true, x.isConsistent());
+        due(want, withPieces(kerf, length, pieces).bestLoadByRecursion(0));
+        about(42, "both ways of computing the best load agree for all spools");
+        due(true, withPieces(kerf, length, pieces).isConsistent());
     }
 
     private static void loads() {
@@ -842,7 +848,7 @@ public final class CallsBoundaryTest extends Checks {
         addSpools(x, 'a', 100);
         x.save();
         String saved = pictureOf(x);
-        for (int i = 0; i < 3; i++) {
+        for (int i = 0; i < 2; i++) {
             addSpools(x, 'b', 50);
             addOrders(x, 'a', 20, 30);
             x.fillDue(9);
@@ -865,7 +871,7 @@ public final class CallsBoundaryTest extends Checks {
     }
 
     private static void changesBeforeSave() {
-        about(51, "To save is no change, and leaves those that can be undone.");
+        about(51, "Saves the state");
         WireCutter x = fresh();
         for (int i = 0; i < 9; i++) {
             x.setScrapLimit(20 + i);

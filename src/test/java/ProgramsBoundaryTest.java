@@ -67,7 +67,9 @@ public final class ProgramsBoundaryTest extends Checks {
     }
 
     private static void everyCommand() {
-        about("command = \"spool \" material number | ...");
+        about("command = \"spool \" material number | \"order \" material number \"@\" number | \"cancel \" number"
+            + " | \"fill \" number | \"due \" number | \"retire \" number | \"clear \" material | \"kerf \" digit"
+            + " | \"limit \" number | \"rule \" ( \"b\" | \"w\" | \"f\" )");
         for (int i = 0; i < SHORTEST.length; i++) {
             for (int length = 0; length < SHORTEST[i].length(); length++) {
                 String begun = SHORTEST[i].substring(0, length);
@@ -202,7 +204,9 @@ public final class ProgramsBoundaryTest extends Checks {
     // ---- what the commands do
 
     private static void ranges() {
-        about("The commands correspond to addSpool(material, length), addOrder(material, length, due), ...");
+        about("The commands correspond to addSpool(material, length), addOrder(material, length, due), cancel(order),"
+            + " fill(order), fillDue(day), retire(spool), throwScraps(material), setKerf(kerf), setScrapLimit(limit)"
+            + " and setRule(rule).");
         for (int number = 0; number <= 999; number++) {
             due(number >= 10, succeeds("spool a" + number));
             due(number >= 1 && number <= 200, succeeds("order a" + number + "@1"));
@@ -397,6 +401,32 @@ public final class ProgramsBoundaryTest extends Checks {
         due(3, x.kerf());
     }
 
+    private static void oldTextIsGone() {
+        WireCutter x = fresh();
+        due(1, runText(x, "limit 12"));
+        due(1, runText(x, "limit 1"));
+        due(1, x.scrapLimit());
+        due(2, runText(x, "kerf 2;kerf 3"));
+        due(1, runText(x, "kerf 2"));
+        due(2, x.kerf());
+        failsAt(x, 7, "kerf 2;");
+        due(1, runText(x, "kerf 4"));
+        failsAt(x, 5, "kerf ");
+        failsAt(x, 4, "kerf");
+        due(1, runText(x, "rule w"));
+        failsAt(x, 5, "rule ");
+        failsAt(x, 0, "");
+        due(1, runText(x, "clear a"));
+        failsAt(x, 6, "clear ");
+        due(1, runText(x, "order a5@99"));
+        failsAt(x, 9, "order a5@");
+        failsAt(x, 8, "order a5");
+        due(1, runText(x, "order a5@9"));
+        due("1a5@9 0a5@99", orderLine(x));
+        due(4, x.kerf());
+        due('w', x.rule());
+    }
+
     private static int typeRest(WireCutter x, String text) {
         int length = 0;
         for (char character : text.toCharArray()) {
@@ -477,6 +507,7 @@ public final class ProgramsBoundaryTest extends Checks {
         failures();
         failuresOfFullObjects();
         emptyAfterwards();
+        oldTextIsGone();
         errorPositions();
         failedCommands();
         end("the boundary cases of programs hold");

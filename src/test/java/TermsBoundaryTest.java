@@ -461,7 +461,7 @@ public final class TermsBoundaryTest extends Checks {
     }
 
     private static void settings() {
-        about("The kerf is a number from 0 to 5, initially 1; The scrap limit is from 1 to 50, initially 5.");
+        about("The kerf is a number from 0 to 5, initially 1 / The scrap limit is from 1 to 50, initially 5.");
         for (int number = -300; number <= 300; number++) {
             int value = number;
             due(value >= 0 && value <= 5 ? 1 : ARGUMENT.getName(), outcome(() -> fresh().setKerf(value)));
