@@ -448,6 +448,10 @@ public final class CallsBoundaryTest extends Checks {
         load(24, 1, 26, 8, 8, 8);
         load(23, 1, 25, 8, 8, 8, 15);
         // The greatest piece is not always in the greatest sum.
+        load(4, 5, 10, 11, 4);
+        load(10, 1, 10, 3, 10);
+        load(10, 0, 10, 1, 10);
+        load(11, 0, 11, 5, 4, 7);
         load(18, 1, 19, 10, 9, 9);
         load(20, 1, 20, 12, 9, 9, 20);
         load(200, 5, 203, 200, 100, 99);

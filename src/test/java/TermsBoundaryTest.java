@@ -604,20 +604,66 @@ public final class TermsBoundaryTest extends Checks {
         }
     }
 
-    private static void isAChange(boolean isChange, CallOn call) {
+    /** Every part of the state differs from that of a new object, and nothing can be undone. */
+    private static WireCutter rich() {
         WireCutter x = fresh();
         x.addSpool('a', 100);
         addScrap(x, 'a', 30);
         addOrders(x, 'a', 10, 50);
+        x.addSpool('b', 90);
+        addOrders(x, 'b', 20, 30);
+        x.fill(2);
+        x.fill(3);
+        addScrap(x, 'c', 40);
+        x.throwScraps('c');
+        addScrap(x, 'c', 25);
+        addOrders(x, 'c', 20);
+        x.fill(4);
+        x.setKerf(2);
+        x.setScrapLimit(7);
+        x.setRule('f');
         x.save();
-        typeAll(x, "kerf 1");
         x.restore();
+        return x;
+    }
+
+    private static final String RICH = "0a:100/0 2b:38/2 0a10@1 1a50@1 a[30] 130=130=0+0+.. b[] 90=90=50+2+.."
+        + " c[4] 65=65=20+1+.. d[] 0=0=0+0+.. e[] 0=0=0+0+.. f[] 0=0=0+0+.. k2l7f filled 3";
+
+    private static void isAChange(boolean isChange, CallOn call) {
+        WireCutter x = rich();
+        typeAll(x, "kerf 1");
         refused(STATE, () -> x.undo());
-        String before = pictureOf(x);
+        due(RICH, pictureOf(x));
         outcome(() -> call.on(x));
         due(isChange ? 0 : STATE.getName(), outcome(() -> x.undo()));
         refused(STATE, () -> x.undo());
-        due(before, pictureOf(x));
+        due(RICH, pictureOf(x));
+    }
+
+    private static void isRestored(CallOn call) {
+        WireCutter x = rich();
+        call.on(x);
+        due(false, RICH.equals(pictureOf(x)));
+        due(2, x.restore());
+        due(RICH, pictureOf(x));
+        due(5, x.addSpool('f', 10));
+        due(5, x.addOrder('f', 10, 10));
+    }
+
+    private static void restoredChanges() {
+        about("The state that is undone, saved and restored consists of everything");
+        isRestored(x -> x.addSpool('c', 10));
+        isRestored(x -> x.addOrder('b', 1, 1));
+        isRestored(x -> x.cancel(0));
+        isRestored(x -> x.fill(0));
+        isRestored(x -> x.fillDue(99));
+        isRestored(x -> x.retire(2));
+        isRestored(x -> x.throwScraps('c'));
+        isRestored(x -> x.setKerf(5));
+        isRestored(x -> x.setScrapLimit(50));
+        isRestored(x -> x.setRule('w'));
+        isRestored(x -> runText(x, "spool c50;order c45@9;kerf 1;fill 5;retire 2;clear b;due 1"));
     }
 
     private static void changes() {
@@ -637,9 +683,9 @@ public final class TermsBoundaryTest extends Checks {
         isAChange(true, x -> runText(x, ";fill 0;fill 1;rule w;clear a"));
         // Those that alter nothing are successful calls too.
         isAChange(true, x -> x.throwScraps('f'));
-        isAChange(true, x -> x.setKerf(1));
-        isAChange(true, x -> x.setScrapLimit(5));
-        isAChange(true, x -> x.setRule('b'));
+        isAChange(true, x -> x.setKerf(2));
+        isAChange(true, x -> x.setScrapLimit(7));
+        isAChange(true, x -> x.setRule('f'));
     }
 
     private static void noChanges() {
@@ -752,6 +798,7 @@ public final class TermsBoundaryTest extends Checks {
         eightChanges();
         changes();
         noChanges();
+        restoredChanges();
         stateThatIsUndone();
         end("the boundary cases of the terms hold");
     }
