@@ -286,18 +286,23 @@ public final class CallsBoundaryTest extends Checks {
     // ---- promises 15 to 22
 
     private static void isNoSpool(WireCutter x, int spool) {
+        about(16, "Returns true if there is such a spool.");
         due(false, x.hasSpool(spool));
-        refused(NO_ELEMENT, () -> x.material(spool));
-        refused(NO_ELEMENT, () -> x.remaining(spool));
-        refused(NO_ELEMENT, () -> x.cuts(spool));
-        refused(NO_ELEMENT, () -> x.bestLoad(spool));
-        refused(NO_ELEMENT, () -> x.bestLoadByRecursion(spool));
-        refused(NO_ELEMENT, () -> x.writeSpool(spool));
-        refused(NO_ELEMENT, () -> x.retire(spool));
+        noSpool(3, () -> x.retire(spool));
+        noSpool(17, () -> x.material(spool));
+        noSpool(18, () -> x.remaining(spool));
+        noSpool(19, () -> x.cuts(spool));
+        noSpool(23, () -> x.bestLoad(spool));
+        noSpool(24, () -> x.bestLoadByRecursion(spool));
+        noSpool(43, () -> x.writeSpool(spool));
+    }
+
+    private static void noSpool(int promise, Call call) {
+        about(promise, "NoSuchElementException if there is no such spool");
+        refused(NO_ELEMENT, call);
     }
 
     private static void noSuchSpool() {
-        about(16, "Returns true if there is such a spool. / NoSuchElementException if there is no such spool");
         WireCutter x = fresh();
         isNoSpool(x, 0);
         addSpools(x, 'a', 30, 40, 50, 20);
@@ -311,7 +316,9 @@ public final class CallsBoundaryTest extends Checks {
         for (int far : FAR) {
             isNoSpool(x, far);
         }
+        about(16, "Returns true if there is such a spool.");
         due(true, x.hasSpool(0) && x.hasSpool(3));
+        about(15, "Returns the number of spools.");
         due(2, x.spools());
         due('a', x.material(3));
         due(20, x.remaining(3));
@@ -418,9 +425,9 @@ public final class CallsBoundaryTest extends Checks {
 
     private static void load(int want, int kerf, int length, int... pieces) {
         // An object for each way, so that none can lean on what the other one did.
-        about(23, "by a table of lengths");
+        about(23, want == 0 ? "0 if no order fits" : "by a table of lengths");
         due(want, withPieces(kerf, length, pieces).bestLoad(0));
-        about(24, "by a recursion that takes or leaves one order after the other");
+        about(24, want == 0 ? "0 if no order fits" : "by a recursion that takes or leaves one order after the other");
         due(want, withPieces(kerf, length, pieces).bestLoadByRecursion(0));
         about(42, "both ways of computing the best load agree for all spools");
         due(true, withPieces(kerf, length, pieces).isConsistent());
@@ -519,23 +526,35 @@ public final class CallsBoundaryTest extends Checks {
         refused(NO_ELEMENT, () -> x.orderAt(11));
     }
 
-    private static void numbersOfOrders() {
+    private static void isNoOrder(WireCutter x, int order) {
         about(26, "Returns true if there is such an open order.");
+        due(false, x.isOpen(order));
+        noOrder(6, () -> x.cancel(order));
+        noOrder(7, () -> x.fill(order));
+        noOrder(27, () -> x.orderMaterial(order));
+        noOrder(28, () -> x.orderLength(order));
+        noOrder(29, () -> x.due(order));
+        noOrder(31, () -> x.canFill(order));
+        noOrder(32, () -> x.chosenScrap(order));
+        noOrder(33, () -> x.chosenSpool(order));
+    }
+
+    private static void noOrder(int promise, Call call) {
+        about(promise, "NoSuchElementException if there is no such open order");
+        refused(NO_ELEMENT, call);
+    }
+
+    private static void numbersOfOrders() {
         WireCutter x = fresh();
-        due(false, x.isOpen(0));
+        isNoOrder(x, 0);
         x.addOrder('a', 1, 1);
         x.addOrder('f', 200, 99);
         for (int far : FAR) {
-            due(false, x.isOpen(far));
-            refused(NO_ELEMENT, () -> x.orderMaterial(far));
-            refused(NO_ELEMENT, () -> x.orderLength(far));
-            refused(NO_ELEMENT, () -> x.due(far));
-            refused(NO_ELEMENT, () -> x.canFill(far));
-            refused(NO_ELEMENT, () -> x.chosenScrap(far));
-            refused(NO_ELEMENT, () -> x.chosenSpool(far));
+            isNoOrder(x, far);
         }
+        isNoOrder(x, 2);
+        about(26, "Returns true if there is such an open order.");
         due(true, x.isOpen(0) && x.isOpen(1));
-        due(false, x.isOpen(2));
         due("a1@1", "" + x.orderMaterial(0) + x.orderLength(0) + "@" + x.due(0));
         due("f200@99", "" + x.orderMaterial(1) + x.orderLength(1) + "@" + x.due(1));
     }

@@ -64,7 +64,8 @@ public final class TermsBoundaryTest extends Checks {
 
     // ---- stock
 
-    private static void onMaterials(boolean mayLackElements, CallWithSign call) {
+    private static void onMaterials(int promise, boolean mayLackElements, CallWithSign call) {
+        about("promise " + promise + ": IllegalArgumentException if the character is not a material");
         for (char sign : signs().toCharArray()) {
             if (sign < 'a' || sign > 'f') {
                 refused(ARGUMENT, () -> call.on(fresh(), sign));
@@ -76,17 +77,17 @@ public final class TermsBoundaryTest extends Checks {
         }
     }
 
+    // "There are six materials, which are the letters from a to f."
     private static void sixMaterials() {
-        about("There are six materials, which are the letters from a to f.");
-        onMaterials(false, (x, sign) -> x.addSpool(sign, 10));
-        onMaterials(false, (x, sign) -> x.throwScraps(sign));
-        onMaterials(false, (x, sign) -> x.addOrder(sign, 1, 1));
-        onMaterials(false, (x, sign) -> x.scraps(sign));
-        onMaterials(true, (x, sign) -> x.scrap(sign, 0));
-        onMaterials(false, (x, sign) -> x.wound(sign));
-        onMaterials(false, (x, sign) -> x.woundByParts(sign));
-        onMaterials(false, (x, sign) -> x.delivered(sign));
-        onMaterials(false, (x, sign) -> x.losses(sign));
+        onMaterials(2, false, (x, sign) -> x.addSpool(sign, 10));
+        onMaterials(4, false, (x, sign) -> x.throwScraps(sign));
+        onMaterials(5, false, (x, sign) -> x.addOrder(sign, 1, 1));
+        onMaterials(21, false, (x, sign) -> x.scraps(sign));
+        onMaterials(22, true, (x, sign) -> x.scrap(sign, 0));
+        onMaterials(34, false, (x, sign) -> x.wound(sign));
+        onMaterials(35, false, (x, sign) -> x.woundByParts(sign));
+        onMaterials(36, false, (x, sign) -> x.delivered(sign));
+        onMaterials(37, false, (x, sign) -> x.losses(sign));
     }
 
     private static void tenSpools() {
